@@ -23,8 +23,6 @@ public final class PulseBoard {
     private static final int MOST_BEATS = 64 * MOST_FOLD;
     /** A cell by one line is at most 3 * 3 * 7 too; a key holds one of each line. */
     private static final int CELL_KEYS = 64 * 64;
-    /** Half of the 15 * 15 * 15 differences of two points, without none at all. */
-    private static final int MOST_GAPS = 1687;
 
     private final Sum sum;
     private final Plan plan;
@@ -640,8 +638,8 @@ public final class PulseBoard {
         }
 
         private boolean isFree(int n) {
-            for (int gap = n; gap < beats; gap += n) {
-                if (between[gap] != 0) {
+            for (int m = 1; m < beats && m * n < beats; m++) {
+                if (between[m * n] != 0) {
                     return false;
                 }
             }
@@ -724,9 +722,9 @@ public final class PulseBoard {
     }
 
     /**
-     * The search for the best laying, all of it without fold. Two points meet if a line and time
-     * don't part them, that is, if they are 0 at their difference: so differences are looked
-     * at, not points, those that time leaves first, then those that the first line leaves too.
+     * The search for the best laying, all of it without fold. Points that two vectors don't part
+     * lie in rows: from one to the next it is the shortest whole vector across both. So no
+     * trial looks at its points.
      */
     private static final class Search {
         final Plan winner = new Plan();
@@ -734,25 +732,17 @@ public final class PulseBoard {
         private int fewestCells = 0;
         private boolean found = false;
         private final Plan trial = new Plan();
-        /** Three numbers -7 .. 7 of a difference, each with 8 added, as digits of base 16. */
-        private final int[] gaps = new int[MOST_GAPS];
-        private final int[] timeLeaves = new int[MOST_GAPS];
-        private final int[] lineLeaves = new int[MOST_GAPS];
-        private int gapCount = 0;
-        private int timeLeft = 0;
-        private int lineLeft = 0;
+        private final int[] across = new int[3];
 
         /** Goes by the numbers, the lower first, so that of equals the first stays. */
         boolean find(Sum sum, int b, int lines) {
             found = false;
-            listGaps(sum);
             int side = 2 * b + 1;
             int vectors = side * side * side;
             for (int n = 0; n < vectors; n++) {
                 spell(TIME, n, b);
                 boolean slow = found && trial.beatsUnfolded(sum) > fewestBeats;
                 if (!slow && trial.tooEarly(sum) == NONE) {
-                    timeLeft = leave(TIME, gaps, gapCount, timeLeaves);
                     tryLines(sum, b, lines, vectors);
                 }
             }
@@ -763,26 +753,26 @@ public final class PulseBoard {
             int zeros = vectors / 2;
             int from = lines == 1 ? zeros : 0;
             int to = lines == 1 ? zeros : vectors - 1;
+            int beats = trial.beatsUnfolded(sum);
             for (int n = 0; n < vectors; n++) {
-                if (n != zeros) {
-                    spell(FIRST, n, b);
-                    lineLeft = leave(FIRST, timeLeaves, timeLeft, lineLeaves);
-                    for (int m = from; m <= to; m++) {
-                        if (lines == 1 || m != zeros) {
-                            spell(SECOND, m, b);
-                            consider(sum);
-                        }
+                spell(FIRST, n, b);
+                for (int m = from; m <= to && n != zeros; m++) {
+                    if (lines == 1 || m != zeros) {
+                        spell(SECOND, m, b);
+                        consider(sum, beats);
                     }
                 }
             }
         }
 
-        private void consider(Sum sum) {
-            int beats = trial.beatsUnfolded(sum);
+        private void consider(Sum sum, int beats) {
+            if (trial.tooFar(sum) != NONE) {
+                return;
+            }
             int cells = countCells(sum);
-            boolean better = !found || beats < fewestBeats
-                    || beats == fewestBeats && cells < fewestCells;
-            if (better && trial.tooFar(sum) == NONE && secondParts()) {
+            // A time with more beats than the fewest doesn't come here.
+            boolean better = !found || beats < fewestBeats || cells < fewestCells;
+            if (better && partsAll(sum, cells)) {
                 found = true;
                 fewestBeats = beats;
                 fewestCells = cells;
@@ -796,66 +786,45 @@ public final class PulseBoard {
             trial.put(which, n / (side * side) - b, n / side % side - b, n % side - b);
         }
 
-        /** Of each two opposite differences of points the one that leads up. */
-        private void listGaps(Sum sum) {
-            gapCount = 0;
-            int toI = sum.size[0] - 1;
-            int toJ = sum.size[1] - 1;
-            int toK = sum.size[2] - 1;
-            for (int i = 0; i <= toI; i++) {
-                for (int j = -toJ; j <= toJ; j++) {
-                    for (int k = -toK; k <= toK; k++) {
-                        if (leadsUp(i, j, k) && gapCount < MOST_GAPS) {
-                            gaps[gapCount] = 256 * (i + 8) + 16 * (j + 8) + k + 8;
-                            gapCount++;
-                        }
-                    }
-                }
+        /** Whether no two points have one beat and cell. */
+        private boolean partsAll(Sum sum, int cells) {
+            if (!findAcross(TIME, FIRST)) {
+                // A point's cell by the first line tells its beat, so time parts no more than it.
+                return cells == sum.points;
             }
+            return countBehind(sum) == 0 || trial.times(SECOND, across[0], across[1], across[2]) != 0;
         }
 
-        private int timesGap(int which, int gap) {
-            return trial.times(which, (gap >> 8) - 8, (gap >> 4 & 15) - 8, (gap & 15) - 8);
+        private int countCells(Sum sum) {
+            // Each cell has one row of points, and each row one point with none behind it.
+            return findAcross(FIRST, SECOND) ? sum.points - countBehind(sum) : countLine(sum);
         }
 
-        /** Keeps the differences that the vector doesn't part: how many. */
-        private int leave(int which, int[] all, int count, int[] kept) {
-            int left = 0;
-            for (int n = 0; n < count; n++) {
-                if (timesGap(which, all[n]) == 0) {
-                    kept[left] = all[n];
-                    left++;
-                }
+        /** The shortest whole vector across two others: false if these lie along one line. */
+        private boolean findAcross(int one, int other) {
+            int[] all = trial.numbers;
+            int a = 3 * one;
+            int b = 3 * other;
+            int i = all[a + 1] * all[b + 2] - all[a + 2] * all[b + 1];
+            int j = all[a + 2] * all[b] - all[a] * all[b + 2];
+            int k = all[a] * all[b + 1] - all[a + 1] * all[b];
+            int common = commonDivisor(Math.abs(i), commonDivisor(Math.abs(j), Math.abs(k)));
+            if (common == 0) {
+                return false;
             }
-            return left;
-        }
-
-        private boolean secondParts() {
-            for (int n = 0; n < lineLeft; n++) {
-                if (timesGap(SECOND, lineLeaves[n]) == 0) {
-                    return false;
-                }
-            }
+            across[0] = i / common;
+            across[1] = j / common;
+            across[2] = k / common;
             return true;
         }
 
-        /**
-         * Points have one cell if they lie some times the shortest vector apart at which both
-         * lines are 0. So each cell has one point with no other that vector behind it.
-         */
-        private int countCells(Sum sum) {
-            int[] two = trial.numbers;
-            int i = Math.abs(two[4] * two[8] - two[5] * two[7]);
-            int j = Math.abs(two[5] * two[6] - two[3] * two[8]);
-            int k = Math.abs(two[3] * two[7] - two[4] * two[6]);
-            int common = commonDivisor(i, commonDivisor(j, k));
-            if (common == 0) {
-                return countLine(sum);
+        /** How many points have another one behind them in their row. */
+        private int countBehind(Sum sum) {
+            int count = 1;
+            for (int d = 0; d < 3; d++) {
+                count *= Math.max(0, sum.size[d] - Math.abs(across[d]));
             }
-            int behind = Math.max(0, sum.size[0] - i / common)
-                    * Math.max(0, sum.size[1] - j / common)
-                    * Math.max(0, sum.size[2] - k / common);
-            return sum.points - behind;
+            return count;
         }
 
         /** With no second line, or one along the first: bit c tells whether cell c is taken. */

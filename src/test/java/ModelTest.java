@@ -2,7 +2,7 @@ import java.util.Random;
 
 /** Long runs of calls, made by seeds, on the class and on PlainModel side by side. */
 public final class ModelTest {
-    private static final int RUNS = 1500;
+    private static final int RUNS = 1000;
     private static final int CALLS = 250;
     private static final int[] ODD = {Integer.MIN_VALUE, Integer.MAX_VALUE, -1, 9, 64, 512, 513, -1000};
 
@@ -11,189 +11,194 @@ public final class ModelTest {
     private final PulseBoard board = new PulseBoard();
     private final PlainModel model = new PlainModel();
     private final StringBuilder told = new StringBuilder();
-    private String call = "";
+    private int searches;
 
-    private ModelTest(long seed, int most) {
-        this.random = new Random(seed);
-        this.most = most;
+    private ModelTest(int seed) {
+        random = new Random(seed);
+        // Few runs have large loops: the model is slow on them.
+        most = seed % 50 == 49 ? 8 : 2 + seed % 4;
+        searches = most == 8 ? 1 : 6;
     }
 
     public static void main(String[] args) {
         int wrong = 0;
         for (int seed = 0; seed < RUNS && wrong < 5; seed++) {
-            // Few runs have large loops: the model's search is slow on them.
-            int most = seed % 50 == 49 ? 8 : 2 + seed % 4;
-            wrong += new ModelTest(seed, most).runCalls(seed) ? 0 : 1;
+            ModelTest test = new ModelTest(seed);
+            if (!test.runCalls()) {
+                wrong++;
+                System.out.println("seed " + seed + ": " + test.told + "\n  with " + test.model);
+            }
         }
         System.out.println(wrong == 0 ? "the class and the model agree" : wrong + " runs differ");
         if (wrong != 0) System.exit(1);
     }
 
-    private boolean runCalls(int seed) {
-        int searches = most == 8 ? 1 : 6;
-        for (int n = 0; n < CALLS; n++) {
-            int kind = random.nextInt(32);
-            if (kind == 31 && searches-- <= 0) kind = 16;
-            long got;
-            long want;
-            if (kind < 14) {
-                long[] both = change(kind);
-                got = both[0];
-                want = both[1];
-            } else {
-                long[] both = ask(kind);
-                got = both[0];
-                want = both[1];
-            }
-            told.append(call).append(' ');
-            if (got != want) {
-                System.out.println("seed " + seed + ": " + call + " answered " + got + ", due is " + want);
-                System.out.println("  " + told);
-                System.out.println("  " + model);
-                return false;
-            }
+    private boolean runCalls() {
+        boolean fine = same("sizes", size(), size(), size());
+        for (int n = random.nextInt(5); n > 0 && fine; n--) fine = variable();
+        for (int n = random.nextInt(20); n > 0 && fine; n--) fine = edge();
+        for (int n = 0; n < CALLS && fine; n++) {
+            fine = random.nextInt(6) == 0 ? change() : ask();
         }
-        return true;
+        return fine;
     }
 
+    /** A number of the range, now and then one outside. */
     private int number(int low, int high) {
-        if (random.nextInt(60) == 0) return ODD[random.nextInt(ODD.length)];
-        if (random.nextInt(40) == 0) return low - 1;
-        if (random.nextInt(40) == 0) return high + 1;
+        int odd = random.nextInt(150);
+        if (odd == 0) return ODD[random.nextInt(ODD.length)];
+        if (odd == 1) return low - 1;
+        if (odd == 2) return high + 1;
         return low + random.nextInt(high - low + 1);
     }
 
-    private long[] change(int kind) {
-        int a = number(0, 3);
-        int i = number(0, most - 1);
-        int j = number(0, most - 1);
-        int k = number(0, most - 1);
-        switch (kind) {
+    private int size() {
+        return number(1, most);
+    }
+
+    private int at(int d) {
+        return number(0, model.about(10 + d) - 1);
+    }
+
+    private int known() {
+        return number(0, Math.max(0, model.about(0) - 1));
+    }
+
+    private boolean variable() {
+        return same("variable", number(0, 2), number(-1, 2), number(-2, 2));
+    }
+
+    private boolean edge() {
+        int value = random.nextInt(9) == 0 ? random.nextInt() : random.nextInt(100) - 50;
+        return same("edge", known(), at(0), at(1), at(2), value);
+    }
+
+    private boolean change() {
+        switch (random.nextInt(24)) {
             case 0:
-                if (random.nextInt(3) != 0) return about(0);
-                i = number(1, most);
-                j = number(1, most);
-                k = number(1, most);
-                call = "sizes(" + i + ", " + j + ", " + k + ")";
-                return both(board.sizes(i, j, k), model.sizes(i, j, k));
-            case 1: case 2: case 3:
-                i = number(0, 2);
-                j = number(-1, 1);
-                k = number(-2, 2);
-                call = "variable(" + i + ", " + j + ", " + k + ")";
-                return both(board.variable(i, j, k), model.variable(i, j, k));
-            case 4: case 5:
-                i = number(0, 7);
-                j = number(0, 2);
-                k = number(0, 2);
-                call = "act(" + a + ", " + i + ", " + j + ", " + k + ")";
-                return both(board.act(a, i, j, k), model.act(a, i, j, k));
-            case 6: case 7: case 8:
-                int value = random.nextInt(9) == 0 ? random.nextInt() : random.nextInt(100) - 50;
-                call = "edge(" + a + ", " + i + ", " + j + ", " + k + ", " + value + ")";
-                return both(board.edge(a, i, j, k, value), model.edge(a, i, j, k, value));
-            case 9:
-                if (random.nextInt(8) != 0) return about(2);
-                call = "clear()";
-                board.clear();
-                model.clear();
-                return both(0, 0);
-            case 10: case 11: case 12:
-                a = number(0, 2);
-                int low = a == 0 && random.nextInt(3) != 0 ? 0 : -3;
-                int high = random.nextInt(2) + 2;
-                i = number(low, high);
-                j = number(low, high);
-                k = number(low, high);
-                if (a != 0 && random.nextInt(2) == 0) i = 0;
-                if (a != 0 && random.nextInt(2) == 0) j = 0;
-                if (a == 2 && random.nextInt(2) == 0) k = 0;
-                call = "lay(" + a + ", " + i + ", " + j + ", " + k + ")";
-                return both(board.lay(a, i, j, k), model.lay(a, i, j, k));
+                return same("sizes", size(), size(), size());
+            case 1:
+                return random.nextInt(4) == 0 ? same("clear") : variable();
+            case 2: case 3:
+                return variable();
+            case 4: case 5: case 6:
+                return same("act", known(), number(0, 7), known(), known());
+            case 7: case 8: case 9: case 10: case 11: case 12:
+                return edge();
+            case 13: case 14:
+                return same("lay", number(0, 2), number(-3, 3), number(-3, 3), number(-3, 3));
+            case 15: case 16:
+                return same("lay", 0, number(0, 3), number(0, 3), number(0, 3));
+            case 17:
+                return same("lay", 1, number(-1, 1), number(-1, 1), number(0, 1));
+            case 18:
+                return same("lay", 2, number(-1, 1), number(-1, 1), number(0, 1));
+            case 19: case 20:
+                return same("fold", number(1, 8));
             default:
-                a = number(1, 8);
-                call = "fold(" + a + ")";
-                return both(board.fold(a), model.fold(a));
+                return searches-- > 0 ? same("best", number(1, 2), number(1, 2)) : same("laid", 3);
         }
     }
 
-    private long[] about(int what) {
-        call = "about(" + what + ")";
-        return both(board.about(what), model.about(what));
-    }
-
-    private long[] ask(int kind) {
-        int a = number(0, 2);
-        int b = number(0, 2);
-        int v = number(0, 3);
-        int i = number(0, most - 1);
-        int j = number(0, most - 1);
-        int k = number(0, most - 1);
-        switch (kind) {
-            case 14: case 15:
-                call = "why(" + a + ")";
-                return both(board.why(a), model.why(a));
-            case 16: case 17:
-                a = number(0, 3);
-                call = "laid(" + a + ")";
-                return both(board.laid(a), model.laid(a));
-            case 18:
-                call = "where(" + i + ", " + j + ", " + k + ", " + a + ")";
-                return both(board.where(i, j, k, a), model.where(i, j, k, a));
-            case 19:
-                call = "needs(" + v + ", " + a + ")";
-                return both(board.needs(v, a), model.needs(v, a));
-            case 20:
-                call = "laying(" + a + ", " + b + ")";
-                return both(board.laying(a, b), model.laying(a, b));
-            case 21: case 22:
-                call = "run()";
-                return both(board.run(), model.run());
-            case 23: case 24:
-                return worked(i, j, k);
-            case 25:
-                a = number(0, 1 + random.nextInt(40));
-                call = "held(" + a + ")";
-                return both(board.held(a), model.held(a));
-            case 26:
-                call = "value(" + v + ", " + i + ", " + j + ", " + k + ")";
-                return both(board.value(v, i, j, k), model.value(v, i, j, k));
-            case 27: case 28:
-                call = "plain(" + v + ", " + i + ", " + j + ", " + k + ")";
-                return both(board.plain(v, i, j, k), model.plain(v, i, j, k));
-            case 29:
-                b = number(0, 1);
-                call = "result(" + v + ", " + i + ", " + b + ")";
-                return both(board.result(v, i, b), model.result(v, i, b));
-            case 30:
-                return about(random.nextBoolean() ? number(0, 3) : number(10, 12));
+    private boolean ask() {
+        switch (random.nextInt(16)) {
+            case 0: case 1:
+                return same("why", number(0, 2));
+            case 2: case 3:
+                return same("laid", number(0, 3));
+            case 4:
+                return same("where", at(0), at(1), at(2), number(0, 2));
+            case 5:
+                return same("needs", known(), number(0, 2));
+            case 6:
+                return same("laying", number(0, 2), number(0, 2));
+            case 7: case 8:
+                return same("run");
+            case 9: case 10:
+                return worked();
+            case 11:
+                return same("held", number(0, random.nextBoolean() ? 4 : model.laid(0)));
+            case 12:
+                return same("value", known(), at(0), at(1), at(2));
+            case 13:
+                return same("plain", known(), at(0), at(1), at(2));
+            case 14:
+                return same("result", known(), number(0, random.nextBoolean() ? 3 : model.about(1)), number(0, 1));
             default:
-                a = number(1, 2);
-                b = number(1, 2);
-                call = "best(" + a + ", " + b + ")";
-                return both(board.best(a, b), model.best(a, b));
+                return same("about", random.nextBoolean() ? number(0, 3) : number(10, 12));
         }
     }
 
     /** Often the place of a true point, so that there is something to find. */
-    private long[] worked(int i, int j, int k) {
-        int beat = number(0, 5);
-        int cell = number(0, 3);
-        int second = number(0, 2);
-        if (random.nextInt(4) != 0) {
-            beat = model.where(i, j, k, 0);
-            cell = model.where(i, j, k, 1);
-            second = model.where(i, j, k, 2);
+    private boolean worked() {
+        if (random.nextInt(4) == 0) return same("worked", number(0, 5), number(0, 3), number(0, 2));
+        int i = at(0);
+        int j = at(1);
+        int k = at(2);
+        return same("worked", model.where(i, j, k, 0), model.where(i, j, k, 1), model.where(i, j, k, 2));
+    }
+
+    private boolean same(String name, int... a) {
+        told.append(name).append('(');
+        for (int n = 0; n < a.length; n++) told.append(n == 0 ? "" : ", ").append(a[n]);
+        told.append(") ");
+        long got = ofBoard(name, a);
+        long want = ofModel(name, a);
+        if (got != want) told.append("answered ").append(got).append(", due is ").append(want);
+        return got == want;
+    }
+
+    private static long flag(boolean answer) {
+        return answer ? 1L : 0L;
+    }
+
+    private long ofBoard(String name, int[] a) {
+        switch (name) {
+            case "sizes": return flag(board.sizes(a[0], a[1], a[2]));
+            case "variable": return board.variable(a[0], a[1], a[2]);
+            case "act": return flag(board.act(a[0], a[1], a[2], a[3]));
+            case "edge": return flag(board.edge(a[0], a[1], a[2], a[3], a[4]));
+            case "clear": board.clear(); return 0;
+            case "lay": return flag(board.lay(a[0], a[1], a[2], a[3]));
+            case "fold": return flag(board.fold(a[0]));
+            case "why": return board.why(a[0]);
+            case "laid": return board.laid(a[0]);
+            case "where": return board.where(a[0], a[1], a[2], a[3]);
+            case "needs": return board.needs(a[0], a[1]);
+            case "best": return board.best(a[0], a[1]);
+            case "laying": return board.laying(a[0], a[1]);
+            case "run": return board.run();
+            case "worked": return board.worked(a[0], a[1], a[2]);
+            case "held": return board.held(a[0]);
+            case "value": return board.value(a[0], a[1], a[2], a[3]);
+            case "plain": return board.plain(a[0], a[1], a[2], a[3]);
+            case "result": return board.result(a[0], a[1], a[2]);
+            default: return board.about(a[0]);
         }
-        call = "worked(" + beat + ", " + cell + ", " + second + ")";
-        return both(board.worked(beat, cell, second), model.worked(beat, cell, second));
     }
 
-    private static long[] both(long got, long want) {
-        return new long[] {got, want};
-    }
-
-    private static long[] both(boolean got, boolean want) {
-        return both(got ? 1L : 0L, want ? 1L : 0L);
+    private long ofModel(String name, int[] a) {
+        switch (name) {
+            case "sizes": return flag(model.sizes(a[0], a[1], a[2]));
+            case "variable": return model.variable(a[0], a[1], a[2]);
+            case "act": return flag(model.act(a[0], a[1], a[2], a[3]));
+            case "edge": return flag(model.edge(a[0], a[1], a[2], a[3], a[4]));
+            case "clear": model.clear(); return 0;
+            case "lay": return flag(model.lay(a[0], a[1], a[2], a[3]));
+            case "fold": return flag(model.fold(a[0]));
+            case "why": return model.why(a[0]);
+            case "laid": return model.laid(a[0]);
+            case "where": return model.where(a[0], a[1], a[2], a[3]);
+            case "needs": return model.needs(a[0], a[1]);
+            case "best": return model.best(a[0], a[1]);
+            case "laying": return model.laying(a[0], a[1]);
+            case "run": return model.run();
+            case "worked": return model.worked(a[0], a[1], a[2]);
+            case "held": return model.held(a[0]);
+            case "value": return model.value(a[0], a[1], a[2], a[3]);
+            case "plain": return model.plain(a[0], a[1], a[2], a[3]);
+            case "result": return model.result(a[0], a[1], a[2]);
+            default: return model.about(a[0]);
+        }
     }
 }
