@@ -175,7 +175,9 @@ public final class PulseBoard {
         }
         plan.takeNumbers(search.winner);
         forgetPlaces();
-        return search.fewestBeats;
+        // The search compares without fold, but beats are told by the fold.
+        settle();
+        return places.beats;
     }
 
     public int laying(int which, int k) {
@@ -722,13 +724,13 @@ public final class PulseBoard {
     }
 
     /**
-     * The search for the best laying, all of it without fold. Points that two vectors don't part
-     * lie in rows: from one to the next it is the shortest whole vector across both. So no
-     * trial looks at its points.
+     * The search for the best laying: what is right, has fewest beats, fewest cells, all without
+     * fold. Points that two vectors don't part lie in rows: from one to the next it is the
+     * shortest whole vector across both. So no trial looks at its points.
      */
     private static final class Search {
         final Plan winner = new Plan();
-        int fewestBeats = 0;
+        private int fewestBeats = 0;
         private int fewestCells = 0;
         private boolean found = false;
         private final Plan trial = new Plan();

@@ -233,7 +233,7 @@ final class PlainModel {
         if (best == null) return -1;
         laying = new int[][] {best[0].clone(), best[1].clone(), best[2].clone()};
         ran = false;
-        return fewest / 1000;
+        return laid(0);
     }
 
     private static boolean isZero(int[] a) {

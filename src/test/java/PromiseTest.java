@@ -439,14 +439,35 @@ public final class PromiseTest {
         laying(13, x, 0, -1, -1, -1, -1, -1, 0, 0, 0);
     }
 
-    /** The document's "(without FOLD)" is read as of all of BEST: the choice and what is told. */
+    /** The choice is made without fold (a reading, see NOTES.md); the answer is told by the fold. */
     private static void bestWithFold() {
         PulseBoard x = product();
         x.fold(2);
-        due(13, "best(1, 1) with a fold", x.best(1, 1), 4);
+        // The last point has beat 3 and cell 1 of 0 .. 2 without fold: 2 * 3 + 1 with it.
+        due(13, "best(1, 1) with a fold", x.best(1, 1), 8);
         laying(13, x, 1, 1, 1, -1, 0, 1, 0, 0, 0);
         due(13, "the fold stays", x.about(3), 2);
-        due(13, "laid(0) is told by the fold", x.laid(0), 8);
+        due(13, "laid(0) is the same", x.laid(0), 8);
+        due(13, "laid(1) is told by the fold", x.laid(1), 2);
+        bestsByFold("one line of four", loop(4, 1), 1, 1, 4, 7, 10, 13, 16, 19, 22, 25);
+        // With no variables space alone parts points: cells 0, 1, 2 at beat 0.
+        PulseBoard y = new PulseBoard();
+        y.sizes(1, 3, 1);
+        bestsByFold("no variables", y, 1, 1, 1, 2, 3, 3, 3, 3, 3, 3);
+        // The first line by its numbers has -2 then: cells 0, 2, 4.
+        bestsByFold("no variables, numbers to 2", y, 2, 1, 1, 1, 3, 3, 5, 5, 5, 5);
+        // The last point is in cell 0 of the first line.
+        bestsByFold("two lines", product(), 1, 2, 4, 7, 10, 13, 16, 19, 22, 25);
+    }
+
+    /** What best answers by fold 1, 2 and so on, asked anew and asked again. */
+    private static void bestsByFold(String what, PulseBoard x, int b, int lines, int... want) {
+        for (int n = 0; n < want.length; n++) {
+            x.fold(n + 1);
+            due(13, what + ", fold " + (n + 1), x.best(b, lines), want[n]);
+            due(13, what + ", fold " + (n + 1) + ", again", x.best(b, lines), want[n]);
+            due(10, what + ", fold " + (n + 1) + ", laid(0)", x.laid(0), want[n]);
+        }
     }
 
     private static void run() {
