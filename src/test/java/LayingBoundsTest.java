@@ -431,7 +431,11 @@ public final class LayingBoundsTest {
         PulseBoard z = line(3, 1, -1);
         z.fold(2);
         bounds.due("BEAT 0 of one CELL, 3 and 4 of the other", z.laid(3), 2);
-        bounds.due("512 BEATS", mostBeats().laid(3), apartOfMostBeats());
+        PulseBoard most = mostBeats();
+        bounds.due("512 BEATS", most.laid(3), apartOfMostBeats());
+        most.lay(2, 0, 1, 0);
+        // A CELL has 64 POINTS, no two of them with one rest of BEATS, 24 (i + j + k) + i, by 64.
+        bounds.due("512 BEATS, 64 POINTS a CELL", most.laid(3), 64);
     }
 
     /** All points at BEATS 0 to 511, the first and the last on one CELL. */
